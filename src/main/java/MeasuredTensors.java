@@ -60,7 +60,8 @@ public final class MeasuredTensors {
             throw new IllegalArgumentException("no number in least terms");
         }
         draft.start(NONE, NONE);
-        draft.measure.set(bitsOf(u), twosIn(l), oddPartOf(l));
+        int twos = twosIn(l);
+        draft.measure.set(bitsOf(u), twos, l >> twos);
         return keepDraft();
     }
 
@@ -101,7 +102,8 @@ public final class MeasuredTensors {
             throw new IllegalArgumentException("no such pair");
         }
         draft.start(a, b);
-        return how == MATRIX ? matrixProduct(left, right) : cellByCell(how, left, right);
+        boolean fits = how == MATRIX ? draftMatrixProduct(left, right) : draftCellByCell(how, left, right);
+        return fits ? keepDraft() : WRONG;
     }
 
     public int turned(int a) throws IndexOutOfBoundsException {
@@ -110,7 +112,8 @@ public final class MeasuredTensors {
             throw new IndexOutOfBoundsException("no such tensor");
         }
         draft.start(a, NONE);
-        return likeIts(argument);
+        draft.resemble(argument);
+        return keepDraft();
     }
 
     public int over(int a, int u, int l) throws IndexOutOfBoundsException, IllegalArgumentException {
@@ -139,16 +142,17 @@ public final class MeasuredTensors {
         if (n != argumentsOf(what) || m < fewestNumbersOf(what) || m > mostNumbersOf(what) || first == null) {
             return WRONG;
         }
+        draft.start(a, n == 2 && b >= 0 ? b : NONE);
+        draft.resemble(first);
+        boolean fits;
         if (n == 1) {
-            draft.start(a, NONE);
-            return callOfOne(what, first, m, x, y);
+            fits = draftOfOne(what, first, m, x, y);
+        } else if (what == PICK || what == HINGE) {
+            fits = draftWithIndex(what, first, indexAt(-1 - b));
+        } else {
+            fits = draftOfTwo(what, first, tensorAt(b), x);
         }
-        if (what == PICK || what == HINGE) {
-            draft.start(a, NONE);
-            return callWithIndex(what, first, indexAt(-1 - b));
-        }
-        draft.start(a, b);
-        return callOfTwo(what, first, tensorAt(b), x);
+        return fits ? keepDraft() : WRONG;
     }
 
     public int reshape(int t, int sides, int a, int b, int c, int d)
@@ -275,16 +279,12 @@ public final class MeasuredTensors {
         return tensorCount - 1;
     }
 
-    private int cellByCell(int how, Tensor left, Tensor right) {
+    private boolean draftCellByCell(int how, Tensor left, Tensor right) {
         Tensor larger = left.shape.sides < right.shape.sides ? right : left;
         Tensor smaller = left.shape.sides < right.shape.sides ? left : right;
-        if (!larger.shape.endsWith(smaller.shape)) {
-            return WRONG;
-        }
-        int cells = larger.shape.cells();
         draft.resemble(larger);
-        draft.spreadOfFirst = timesIn(cells, left.shape.cells());
-        draft.spreadOfSecond = timesIn(cells, right.shape.cells());
+        draft.spreadOfFirst = timesIn(larger.shape.cells(), left.shape.cells());
+        draft.spreadOfSecond = timesIn(larger.shape.cells(), right.shape.cells());
         if (how == TIMES) {
             draft.measure.multiply(smaller.measure);
             draft.handing = BY_THE_OTHER;
@@ -292,14 +292,14 @@ public final class MeasuredTensors {
             draft.measure.unite(smaller.measure);
             draft.measure.widen(1);
         }
-        return keepDraft();
+        return larger.shape.endsWith(smaller.shape);
     }
 
-    private int matrixProduct(Tensor left, Tensor right) {
+    private boolean draftMatrixProduct(Tensor left, Tensor right) {
         Shape a = left.shape;
         Shape b = right.shape;
         if (a.sides < 1 || a.sides > 2 || b.sides < 1 || b.sides > 2 || a.side(a.sides - 1) != b.side(0)) {
-            return WRONG;
+            return false;
         }
         int rows = a.sides == 2 ? a.side(0) : 1;
         int columns = b.side(1);
@@ -309,23 +309,18 @@ public final class MeasuredTensors {
         if (b.sides == 2) {
             draft.shape.append(columns);
         }
-        draft.terms = b.side(0);
         draft.spreadOfFirst = columns;
         draft.spreadOfSecond = rows;
-        return productOf(left, right);
+        draftProducts(b.side(0), left, right);
+        return true;
     }
 
-    private int productOf(Tensor left, Tensor right) {
+    private void draftProducts(int terms, Tensor left, Tensor right) {
+        draft.terms = terms;
         draft.measure.copy(left.measure);
         draft.measure.multiply(right.measure);
-        draft.measure.widen(doublingsTo(draft.terms));
+        draft.measure.widen(doublingsTo(terms));
         draft.handing = BY_THE_OTHER;
-        return keepDraft();
-    }
-
-    private int likeIts(Tensor argument) {
-        draft.resemble(argument);
-        return keepDraft();
     }
 
     private static int argumentsOf(int what) {
@@ -376,174 +371,132 @@ public final class MeasuredTensors {
         }
     }
 
-    private int callOfOne(int what, Tensor a, int m, int x, int y) {
+    private boolean draftOfOne(int what, Tensor a, int m, int x, int y) {
         switch (what) {
             case SQUARE:
-                return squareOf(a);
+                draft.measure.multiply(a.measure);
+                draft.handing = BY_ITSELF;
+                return true;
             case STEP:
-                return stepOf(a);
+                draft.measure.set(1, 0, 1);
+                draft.handing = NOT_AT_ALL;
+                return true;
             case STOP:
                 draft.handing = NOT_AT_ALL;
-                return likeIts(a);
+                return true;
             case SUM:
             case MEAN:
-                return m == 0 ? totalOf(what, a) : totalAlong(what, a, x);
+                return m == 0 ? draftTotal(what, a) : draftTotalAlong(what, a, x);
             case HIGH:
-                return highestAlong(a, x);
+                return draft.shape.remove(x);
             case POOL:
             case TOPS:
-                return squaresOf(what, a, x);
+                return draftSquares(what, a.shape, x);
             case TURN:
-                return turnOf(a);
+                draft.shape.set(2, a.shape.side(1), a.shape.side(0), 1, 1);
+                return a.shape.sides == 2;
             case PART:
-                return partOf(a, x, y);
+                return draftPart(a.shape, x, y);
             case PAD:
-                return padOf(a, x);
+                return draftPad(a.shape, x);
             default:
-                return likeIts(a);
+                return true;
         }
     }
 
-    private int squareOf(Tensor a) {
-        draft.resemble(a);
-        draft.measure.multiply(a.measure);
-        draft.handing = BY_ITSELF;
-        return keepDraft();
-    }
-
-    private int stepOf(Tensor a) {
-        draft.resemble(a);
-        draft.measure.set(1, 0, 1);
-        draft.handing = NOT_AT_ALL;
-        return keepDraft();
-    }
-
-    private int totalOf(int what, Tensor a) {
-        draft.resemble(a);
+    private boolean draftTotal(int what, Tensor a) {
         draft.shape.clear();
-        return totalOver(what, a.shape.cells());
+        addUp(what, a.shape.cells());
+        return true;
     }
 
-    private int totalAlong(int what, Tensor a, int side) {
-        if (side >= a.shape.sides) {
-            return WRONG;
-        }
-        draft.resemble(a);
-        draft.shape.remove(side);
-        return totalOver(what, a.shape.side(side));
+    private boolean draftTotalAlong(int what, Tensor a, int side) {
+        addUp(what, a.shape.side(side));
+        return draft.shape.remove(side);
     }
 
-    private int totalOver(int what, int terms) {
+    private void addUp(int what, int terms) {
         draft.terms = terms;
         draft.measure.widen(doublingsTo(terms));
         if (what != SUM) {
             draft.divide(terms, 1);
         }
-        return keepDraft();
     }
 
-    private int highestAlong(Tensor a, int side) {
-        if (side >= a.shape.sides) {
-            return WRONG;
+    private boolean draftSquares(int what, Shape a, int p) {
+        int height = a.side(1);
+        int width = a.side(2);
+        if (a.sides != 3 || p < 1 || height % p != 0 || width % p != 0) {
+            return false;
         }
-        draft.resemble(a);
-        draft.shape.remove(side);
-        return keepDraft();
+        draft.shape.set(3, a.side(0), height / p, width / p, 1);
+        if (what == POOL) {
+            addUp(what, p * p);
+        }
+        return true;
     }
 
-    private int squaresOf(int what, Tensor a, int p) {
-        int height = a.shape.side(1);
-        int width = a.shape.side(2);
-        if (a.shape.sides != 3 || p < 1 || height % p != 0 || width % p != 0) {
-            return WRONG;
+    private boolean draftPart(Shape a, int from, int to) {
+        if (a.sides < 1 || from >= to || to > a.side(0)) {
+            return false;
         }
-        draft.resemble(a);
-        draft.shape.set(3, a.shape.side(0), height / p, width / p, 1);
-        return what == TOPS ? keepDraft() : totalOver(what, p * p);
-    }
-
-    private int turnOf(Tensor a) {
-        if (a.shape.sides != 2) {
-            return WRONG;
-        }
-        draft.resemble(a);
-        draft.shape.set(2, a.shape.side(1), a.shape.side(0), 1, 1);
-        return keepDraft();
-    }
-
-    private int partOf(Tensor a, int from, int to) {
-        if (a.shape.sides < 1 || from >= to || to > a.shape.side(0)) {
-            return WRONG;
-        }
-        draft.resemble(a);
         draft.shape.setFirst(to - from);
-        return keepDraft();
+        return true;
     }
 
-    private int padOf(Tensor a, int p) {
-        if (a.shape.sides != 3 || p < 1 || p > WIDEST_EDGE) {
-            return WRONG;
+    private boolean draftPad(Shape a, int p) {
+        if (a.sides != 3 || p < 1 || p > WIDEST_EDGE) {
+            return false;
         }
-        draft.resemble(a);
-        draft.shape.set(3, a.shape.side(0), a.shape.side(1) + 2 * p, a.shape.side(2) + 2 * p, 1);
-        return keepDraft();
+        draft.shape.set(3, a.side(0), a.side(1) + 2 * p, a.side(2) + 2 * p, 1);
+        return true;
     }
 
-    private int callOfTwo(int what, Tensor a, Tensor b, int x) {
+    private boolean draftOfTwo(int what, Tensor a, Tensor b, int x) {
         if (b == null) {
-            return WRONG;
+            return false;
         }
         switch (what) {
             case CONV:
-                return convolutionOf(a, b, x);
+                return draftConvolution(a, b, x);
             case JOIN:
-                return joinOf(a, b);
+                draft.shape.setFirst(a.shape.side(0) + b.shape.side(0));
+                draft.measure.unite(b.measure);
+                return a.shape.sides > 0 && a.shape.equalsBehindFirst(b.shape);
             default:
-                return gapOf(a, b);
+                draftGap(a, b);
+                return a.shape.sides == b.shape.sides && a.shape.endsWith(b.shape);
         }
     }
 
-    private int convolutionOf(Tensor image, Tensor filter, int stride) {
+    private boolean draftConvolution(Tensor image, Tensor filter, int stride) {
         Shape x = image.shape;
         Shape f = filter.shape;
         if (x.sides != 3 || f.sides != 4 || f.side(1) != x.side(0) || stride < 1 || stride > LONGEST_STRIDE) {
-            return WRONG;
+            return false;
         }
         if (f.side(2) > x.side(1) || f.side(3) > x.side(2)) {
-            return WRONG;
+            return false;
         }
         int window = f.side(2) * f.side(3);
         int height = (x.side(1) - f.side(2)) / stride + 1;
         int width = (x.side(2) - f.side(3)) / stride + 1;
         draft.shape.set(3, f.side(0), height, width, 1);
-        draft.terms = x.side(0) * window;
         draft.spreadOfFirst = f.side(0) * window;
         draft.spreadOfSecond = height * width;
-        return productOf(image, filter);
+        draftProducts(x.side(0) * window, image, filter);
+        return true;
     }
 
-    private int joinOf(Tensor a, Tensor b) {
-        if (a.shape.sides < 1 || !a.shape.equalsBehindFirst(b.shape)) {
-            return WRONG;
-        }
-        draft.resemble(a);
-        draft.shape.setFirst(a.shape.side(0) + b.shape.side(0));
-        draft.measure.unite(b.measure);
-        return keepDraft();
-    }
-
-    private int gapOf(Tensor a, Tensor b) {
-        if (a.shape.sides != b.shape.sides || !a.shape.endsWith(b.shape)) {
-            return WRONG;
-        }
-        draft.terms = a.shape.cells();
+    private void draftGap(Tensor a, Tensor b) {
         measureDifference(a, b);
+        draft.shape.clear();
+        draft.terms = a.shape.cells();
         draft.measure.copy(difference);
         draft.measure.multiply(difference);
         draft.measure.widen(doublingsTo(draft.terms));
         draft.measure.divide(2, 1);
         draft.handing = BY_THE_DIFFERENCE;
-        return keepDraft();
     }
 
     private void measureDifference(Tensor a, Tensor b) {
@@ -552,33 +505,21 @@ public final class MeasuredTensors {
         difference.widen(1);
     }
 
-    private int callWithIndex(int what, Tensor a, Index i) {
-        if (i == null || i.below > a.shape.side(0)) {
-            return WRONG;
+    private boolean draftWithIndex(int what, Tensor a, Index i) {
+        if (i == null) {
+            return false;
         }
-        return what == PICK ? pickOf(a, i) : hingeOf(a, i);
-    }
-
-    private int pickOf(Tensor a, Index i) {
-        if (a.shape.sides != 2 || i.shape.sides != 1) {
-            return WRONG;
+        int rows = a.shape.side(0);
+        if (what == PICK) {
+            draft.shape.setFirst(i.shape.side(0));
+            draft.spreadOfFirst = i.shape.side(0);
+            return a.shape.sides == 2 && i.shape.sides == 1 && i.below <= rows;
         }
-        draft.resemble(a);
-        draft.shape.setFirst(i.shape.side(0));
-        draft.spreadOfFirst = i.shape.side(0);
-        return keepDraft();
-    }
-
-    private int hingeOf(Tensor a, Index i) {
-        if (a.shape.sides != 1 || i.shape.sides != 0) {
-            return WRONG;
-        }
-        draft.resemble(a);
         draft.shape.clear();
-        draft.terms = a.shape.side(0);
-        draft.spreadOfFirst = a.shape.side(0);
-        draft.measure.widen(3 + doublingsTo(draft.terms));
-        return keepDraft();
+        draft.terms = rows;
+        draft.spreadOfFirst = rows;
+        draft.measure.widen(3 + doublingsTo(rows));
+        return a.shape.sides == 1 && i.shape.sides == 0 && i.below <= rows;
     }
 
     private void forgetSlopes() {
@@ -689,10 +630,6 @@ public final class MeasuredTensors {
             k++;
         }
         return k;
-    }
-
-    private static int oddPartOf(int n) {
-        return n >> twosIn(n);
     }
 
     private static int timesIn(int whole, int part) {
@@ -811,14 +748,16 @@ public final class MeasuredTensors {
             set(other.sides, other.side(0), other.side(1), other.side(2), other.side(3));
         }
 
-        void remove(int side) {
+        /** Whether there was such a side. */
+        boolean remove(int side) {
             if (side < 0 || side >= sides) {
-                return;
+                return false;
             }
             for (int k = side; k + 1 < sides && k + 1 < lengths.length; k++) {
                 lengths[k] = lengths[k + 1];
             }
             sides--;
+            return true;
         }
 
         /** 1 for a side that is not there. */
@@ -885,7 +824,8 @@ public final class MeasuredTensors {
         }
 
         void divide(int u, int l) {
-            set(range + bitsOf(l), places + twosIn(u), productBelowBound(odd, oddPartOf(u)));
+            int twos = twosIn(u);
+            set(range + bitsOf(l), places + twos, productBelowBound(odd, u >> twos));
         }
 
         void unite(Measure other) {

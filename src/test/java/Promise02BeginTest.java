@@ -6,6 +6,7 @@ final class Promise02BeginTest {
         Due due = new Due("Promise 2");
         tellsPlacesOfParams(due);
         takesAllAway(due);
+        leavesNoTrace(due);
         refusesOtherPlaces(due);
         due.end();
     }
@@ -44,6 +45,32 @@ final class Promise02BeginTest {
         due.hasMeasure(x, 1, 1, 2, 0, 5);
         due.hasNoSlope(x, 1);
         due.holds(x, 2, 1, 13, NONE);
+    }
+
+    /** Tensors of the same numbers as those that went, made otherwise. */
+    private static void leavesNoTrace(Due due) {
+        MeasuredTensors x = new MeasuredTensors();
+        x.made(true, 2, 4, 4, 0, 0);
+        for (int k = 0; k < 4; k++) {
+            x.pair(3, 0, 0);
+        }
+        x.call(3, 1, 0, 0, 0, 0, 0);
+        x.over(0, 3, 1);
+        x.call(2, 1, 0, 0, 0, 0, 0);
+        x.begin(0);
+        x.made(false, 1, 3, 0, 0, 0);
+        x.made(false, 1, 3, 0, 0, 0);
+        x.turned(0);
+        x.call(14, 2, 2, 1, 0, 0, 0);
+        x.call(0, 1, 3, 0, 0, 0, 0);
+        x.call(1, 1, 4, 0, 0, 0, 0);
+        x.call(7, 1, 5, 0, 1, 0, 0);
+        x.reshape(6, 0, 0, 0, 0, 0);
+        x.loss(7);
+        for (int t = 0; t < 8; t++) {
+            due.hasMeasure(x, t, 1, 16, 16, 1);
+            due.hasSlope(x, t, 1, 1, 0, 1);
+        }
     }
 
     private static void refusesOtherPlaces(Due due) {

@@ -200,6 +200,26 @@ final class Promise06PairTest {
         due.hasSlope(x, 2, 1, 4, 1, 3);
         due.hasSlope(x, 1, 1, 4 + 15 + 2, 5, 3);
         due.hasSlope(x, 0, 1, 4 + 15 + 4, 5, 3);
+        findsSlopesOfRows(due);
+    }
+
+    private static void findsSlopesOfRows(Due due) {
+        MeasuredTensors x = new MeasuredTensors();
+        x.begin(4);
+        x.made(false, 1, 5, 0, 0, 0);
+        x.made(true, 2, 5, 9, 0, 0);
+        x.pair(MATRIX, 0, 1);
+        x.made(true, 2, 6, 9, 0, 0);
+        x.pair(MATRIX, 3, 2);
+        x.made(true, 1, 6, 0, 0, 0);
+        x.pair(MATRIX, 4, 5);
+        x.loss(6);
+        due.hasSlope(x, 5, 1, 1 + 53, 16 + 4 + 4, 1);
+        due.hasSlope(x, 4, 1, 1 + 15, 4, 1);
+        due.hasSlope(x, 3, 1, 16 + 34, 4 + 20, 1);
+        due.hasSlope(x, 2, 1, 16 + 15 + 3, 8, 1);
+        due.hasSlope(x, 1, 1, 34 + 16, 8 + 16, 1);
+        due.hasSlope(x, 0, 1, 34 + 15 + 4, 8 + 4, 1);
     }
 
     private static void refuses(Due due) {
