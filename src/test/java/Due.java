@@ -5,6 +5,7 @@ final class Due {
     }
 
     private final String test;
+    private String sentence = "";
     private int checked = 0;
     private int wrong = 0;
 
@@ -12,12 +13,28 @@ final class Due {
         this.test = test;
     }
 
+    /** The document's sentence that the next answers are due to; it is told with each that is not as due. */
+    void about(String words) {
+        sentence = words.isEmpty() ? "" : " [" + words + "]";
+    }
+
     void is(String call, long want, long got) {
         checked++;
         if (want != got) {
-            wrong++;
-            System.out.println(test + ": " + call + " answered " + got + ", due is " + want);
+            tell(call + " answered " + got + ", due is " + want);
         }
+    }
+
+    void isSame(String what, String want, String got) {
+        checked++;
+        if (!want.equals(got)) {
+            tell(what + " is\n    " + got + "\n  due is\n    " + want);
+        }
+    }
+
+    private void tell(String difference) {
+        wrong++;
+        System.out.println(test + sentence + ": " + difference);
     }
 
     /** Exactly this class: a subclass would be the machine's own exception. */
@@ -32,8 +49,7 @@ final class Due {
             }
             got = "threw " + e.getClass().getName();
         }
-        wrong++;
-        System.out.println(test + ": " + call + " " + got + ", due is " + want.getName());
+        tell(call + " " + got + ", due is " + want.getName());
     }
 
     void isOutOfBounds(String call, Answer answer) {
