@@ -82,7 +82,7 @@ final class BoundaryMeasureTest {
         range("hinge of 5", ranged(5), 3994, 4000, x -> Ask.two(x, Ask.HINGE, Ask.last(x), -1));
     }
 
-    /** "a + b, a - b: greater r + 1"; "a * b, a @ b, conv: sum of r, and of L(terms)"; "gap: as a - b, its square". */
+    /** "a + b, a - b, join: greater r + 1"; "a * b, a @ b, conv: sum of r, and of L(terms)"; "gap: as a - b". */
     private void rangeOfTwo() {
         for (int how = Ask.PLUS; how <= Ask.MINUS; how++) {
             int h = how;
