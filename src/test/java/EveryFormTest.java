@@ -1,6 +1,7 @@
 /**
- * Each form of "WHAT IS MADE", in the document's order and under its words: shape, terms and measure of the result, and
- * the slopes that its arguments have from it.
+ * "WHAT IS MADE .. shapes, and TERMS: how many numbers are added up in a cell of the result; and how many cells of the
+ * result a cell of an argument goes into": each form in the document's order and under its words, with the measure of
+ * the result and, "from each use of it in a result with a slope: that of the result's slope", those of its arguments.
  */
 final class EveryFormTest {
     /** Of the arguments a and b, and of the result's slope, for arguments and results of any shape: r, e and q. */
@@ -59,7 +60,10 @@ final class EveryFormTest {
         due.is("the work", others + x.told(made, 5) * terms, x.all(2));
     }
 
-    /** With the loss sum(result) / (14 / 3), so that the result's slope is S; what a and b then have. */
+    /**
+     * "THE SLOPES, once a tensor without sides is the LOSS": it is sum(result) / (14 / 3), so that the slope of the
+     * result is S; what a and b then have.
+     */
     private void slopes(int[] ofA, int[] ofB) {
         int total = x.told(made, 0) == 0 ? made : Ask.one(x, Ask.SUM, made);
         x.loss(x.over(total, 14, 3));
@@ -92,8 +96,8 @@ final class EveryFormTest {
 
     /** Greater r + 1, greater e, least common multiple of q; the slopes as they are, taken so often. */
     private void sumsAndDifferences() {
-        String words = "a + b, a - b: cell by cell, the smaller one again and again. Terms: 1; 1 for the larger, for the "
-                + "smaller how often it is taken";
+        String words = "a + b, a - b: cell by cell, the smaller one again and again. Terms: 1; 1 for the larger, for "
+                + "the smaller how often it is taken";
         for (int how = Ask.PLUS; how <= Ask.MINUS; how++) {
             with(words, of(2, 3), of(2, 3));
             is(x.pair(how, a, b), of(2, 3), 1, 19 + 1, 17, 15);
@@ -168,7 +172,7 @@ final class EveryFormTest {
     /** Another use beside them is the only one that gives a slope. */
     private void stepAndStop() {
         for (int what : new int[] {Ask.STEP, Ask.STOP}) {
-            with("step(a): its derivative is 0. stop(a): a; its derivative is 0", 2, 3);
+            with("step(a): 1 where a is above 0, else 0; its derivative is 0. stop(a): a; its derivative is 0", 2, 3);
             if (what == Ask.STEP) {
                 is(Ask.one(x, what, a), of(2, 3), 1, 1, 0, 1);
             } else {
@@ -213,7 +217,7 @@ final class EveryFormTest {
     private void greatest() {
         int[][] left = {{3, 5}, {2, 5}, {2, 3}};
         for (int k = 0; k < 3; k++) {
-            with("high(a; k): the greatest along side k, which goes. Terms 1; 1", 2, 3, 5);
+            with("high(a; k): its derivative is that of the first greatest one alone. Terms 1; 1", 2, 3, 5);
             is(Ask.one(x, Ask.HIGH, a, k), left[k], 1, 17, 5, 3);
             slopes(S, NO_SLOPE);
         }
@@ -236,7 +240,7 @@ final class EveryFormTest {
         with("pool(x; p): means of p times p cells, [c, h / p, w / p]. Terms p p; 1", 2, 6, 12);
         is(Ask.one(x, Ask.POOL, a, 6), of(2, 1, 2), 36, 17 + 6 + 1, 5 + 2, 3 * 9);
         slopes(times(S, of(1, 2, 9)), NO_SLOPE);
-        with("tops(x; p) the greatest ones. Terms p p (tops: 1); 1", 2, 6, 12);
+        with("tops(x; p) the greatest ones (derivative: of the first one in order). Terms p p (tops: 1); 1", 2, 6, 12);
         is(Ask.one(x, Ask.TOPS, a, 6), of(2, 1, 2), 1, 17, 5, 3);
         slopes(S, NO_SLOPE);
     }
@@ -257,8 +261,8 @@ final class EveryFormTest {
     }
 
     private void joins() {
-        String words = "join(a, b): one behind the other along the first side; join: greater r, greater e, least common "
-                + "multiple of q";
+        String words = "join(a, b): one behind the other along the first side; join: greater r, greater e, least "
+                + "common multiple of q";
         with(words, of(2, 3), of(4, 3));
         is(Ask.two(x, Ask.JOIN, a, b), of(6, 3), 1, 19, 17, 15);
         slopes(S, S);

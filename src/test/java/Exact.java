@@ -86,7 +86,7 @@ final class Exact {
         keep(made);
     }
 
-    /** How the cells of the smaller one are taken again and again. */
+    /** "cell by cell, the smaller one again and again": it is the last sides of the other. */
     void pair(int how, Node a, Node b) {
         if (how == Ask.MATRIX) {
             matrixProduct(a, b);
@@ -106,6 +106,7 @@ final class Exact {
         keep(made);
     }
 
+    /** "sums over n". */
     private void matrixProduct(Node a, Node b) {
         int n = b.shape[0];
         int rows = a.count() / n;
@@ -133,6 +134,7 @@ final class Exact {
         keep(made);
     }
 
+    /** "relu(a): a where it is above 0, else 0", "step(a): 1 where a is above 0, else 0". */
     void cellByCell(int what, Node a) {
         Node made = new Node(a.shape);
         made.isStill = what == Ask.STEP || what == Ask.STOP;
@@ -159,6 +161,7 @@ final class Exact {
         keep(made);
     }
 
+    /** "sum(a), mean(a): of all cells, no sides". */
     void total(int what, Node a) {
         Node made = new Node();
         for (int c = 0; c < a.count(); c++) {
@@ -167,7 +170,7 @@ final class Exact {
         keep(made);
     }
 
-    /** Sum, mean or high along side k: cells that lie so far apart. */
+    /** Sum, mean or high "along side k, which goes"; of high "the first greatest one alone" has a derivative. */
     void along(int what, Node a, int k) {
         int apart = 1;
         int[] left = new int[a.shape.length - 1];
@@ -199,6 +202,7 @@ final class Exact {
         return (c * shape[1] + y) * shape[2] + z;
     }
 
+    /** "cell (i, y, z) is the sum over c, p, q of x(., s y + ., s z + .) f(i, ., ., .)". */
     void conv(Node a, Node f, int s) {
         int[] window = f.shape;
         Node made = new Node(window[0], (a.shape[1] - window[2]) / s + 1, (a.shape[2] - window[3]) / s + 1);
@@ -217,7 +221,7 @@ final class Exact {
         keep(made);
     }
 
-    /** Pool or tops. */
+    /** "means of p times p cells", or "the greatest ones (derivative: of the first one in order)". */
     void squares(int what, Node a, int side) {
         Node made = new Node(a.shape[0], a.shape[1] / side, a.shape[2] / side);
         for (int c = 0; c < made.count(); c++) {
@@ -239,6 +243,7 @@ final class Exact {
         keep(made);
     }
 
+    /** "as many cells, in their order". */
     void reshape(Node a, int... shape) {
         Node made = new Node(shape);
         for (int c = 0; c < a.count(); c++) {
@@ -261,6 +266,7 @@ final class Exact {
         return new Node(shape);
     }
 
+    /** "of the first side those from i to before j". */
     void part(Node a, int i, int j) {
         Node made = withFirst(a, j - i);
         int row = a.count() / a.shape[0];
@@ -270,6 +276,7 @@ final class Exact {
         keep(made);
     }
 
+    /** "one behind the other along the first side". */
     void join(Node a, Node b) {
         Node made = withFirst(a, a.shape[0] + b.shape[0]);
         for (int c = 0; c < made.count(); c++) {
@@ -278,6 +285,7 @@ final class Exact {
         keep(made);
     }
 
+    /** "zeros on each of the four edges". */
     void pad(Node a, int edge) {
         Node made = new Node(a.shape[0], a.shape[1] + 2 * edge, a.shape[2] + 2 * edge);
         for (int i = 0; i < a.count(); i++) {
@@ -288,6 +296,7 @@ final class Exact {
         keep(made);
     }
 
+    /** "[m, d], the rows told". */
     void pick(Node t, int... rows) {
         int d = t.shape[1];
         Node made = new Node(rows.length, d);
@@ -297,6 +306,7 @@ final class Exact {
         keep(made);
     }
 
+    /** "the sum over all k but i of relu(1 + a(k) - a(i))". */
     void hinge(Node a, int i) {
         Node made = new Node();
         for (int k = 0; k < a.count(); k++) {
@@ -311,6 +321,7 @@ final class Exact {
         keep(made);
     }
 
+    /** "the sum of square(a - b) / 2". */
     void gap(Node a, Node b) {
         Node made = new Node();
         for (int c = 0; c < a.count(); c++) {

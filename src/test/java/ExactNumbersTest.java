@@ -7,8 +7,8 @@ import java.math.BigInteger;
 final class ExactNumbersTest {
     private static final int TURNED = 20, OVER = 21, RESHAPE = 22, PAIR = 30, OPS = 34;
     private static final int STYLES = 5, NETWORKS = 1500;
-    private static final String FIRST = "how wide each tensor's exact numbers, and those of the loss's derivative by it, "
-            + "can become; before any number is known";
+    private static final String FIRST = "how many numbers are added up, and how wide each tensor's exact numbers, and "
+            + "those of the loss's derivative by it, can become";
 
     private final Due due = new Due("Exact numbers");
     private Exact net;
@@ -43,7 +43,8 @@ final class ExactNumbersTest {
             case 3:
                 return Fraction.places(BigInteger.valueOf(c % 3 - 1), places);
             default:
-                BigInteger any = BigInteger.valueOf(below(1 << 30)).shiftLeft(30).add(BigInteger.valueOf(below(1 << 30)));
+                BigInteger high = BigInteger.valueOf(below(1 << 30)).shiftLeft(30);
+                BigInteger any = high.add(BigInteger.valueOf(below(1 << 30)));
                 BigInteger some = any.mod(BigInteger.ONE.shiftLeft(bits + places));
                 return Fraction.places(below(2) == 0 ? some : some.negate(), places);
         }
@@ -167,6 +168,7 @@ final class ExactNumbersTest {
         isWithin("op " + op, node.cells, x.told(t, 7), x.told(t, 8), x.divisor(t, false));
     }
 
+    /** "RANGE r, PLACES e, DIVISOR q (odd)". */
     private void isWithin(String what, Fraction[] cells, int r, int e, long q) {
         due.is("q of " + what + " is odd", 1, q % 2);
         for (Fraction cell : cells) {
@@ -177,7 +179,7 @@ final class ExactNumbersTest {
         }
     }
 
-    /** "the slope of a tensor is the derivative of the loss by its cells": 0 for what has none, but for step and stop. */
+    /** "the slope of a tensor is the derivative of the loss by its cells": 0 for what has none but step and stop. */
     private void lossIsAsMeasured(int t) {
         MeasuredTensors x = net.x;
         if (x.loss(t) == MeasuredTensors.FULL) {

@@ -55,8 +55,8 @@ final class FaceTest {
         }
         for (Method method : MeasuredTensors.class.getDeclaredMethods()) {
             if (!Modifier.isPrivate(method.getModifiers())) {
-                seen.add(Modifier.toString(method.getModifiers()) + " " + method.getReturnType() + " " + method.getName()
-                        + "(" + names(method.getParameterTypes()) + ")" + thrown(method));
+                seen.add(Modifier.toString(method.getModifiers()) + " " + method.getReturnType() + " "
+                        + method.getName() + "(" + names(method.getParameterTypes()) + ")" + thrown(method));
             }
         }
         return seen;

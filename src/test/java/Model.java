@@ -219,8 +219,8 @@ final class Model {
 
     private static final String[] NAMES = {"relu", "abs", "square", "step", "stop", "sum", "mean", "high", "conv",
         "pool", "tops", null, "turn", "part", "join", "pad", "pick", "hinge", "gap"};
-    private static final String[] FORMS = {"T", "T", "T", "T", "T", "T?", "T?", "T1", "TT1", "T1", "T1", null, "T", "T11",
-        "TT", "T1", "TI", "TI", "TT"};
+    private static final String[] FORMS = {"T", "T", "T", "T", "T", "T?", "T?", "T1", "TT1", "T1", "T1", null, "T",
+        "T11", "TT", "T1", "TI", "TI", "TT"};
 
     long call(int what, int n, int a, int b, int m, int x, int y) {
         illegalIf(what < 0 || what >= NAMES.length || what == 11 || n < 0 || n > 2 || m < 0 || m > 2);

@@ -2,6 +2,7 @@
 final class Promise01NewObjectTest {
     public static void main(String[] args) {
         Due due = new Due("Promise 1");
+        due.about("No tensors, no indices, no loss; p is 0");
         MeasuredTensors x = new MeasuredTensors();
         due.holds(x, 0, 0, 0, MeasuredTensors.NONE);
         due.isOutOfBounds("told(0, 0)", () -> x.told(0, 0));

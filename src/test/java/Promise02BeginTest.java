@@ -12,6 +12,7 @@ final class Promise02BeginTest {
     }
 
     private static void tellsPlacesOfParams(Due due) {
+        due.about("p is a number that is told at the beginning. input: 16, 16, 1. param: 15, p, 1");
         MeasuredTensors x = new MeasuredTensors();
         for (int p : new int[] {0, 1, 20, 63, 64}) {
             x.begin(p);
@@ -23,6 +24,7 @@ final class Promise02BeginTest {
     }
 
     private static void takesAllAway(Due due) {
+        due.about("All tensors, indices and the loss go; p is told");
         MeasuredTensors x = new MeasuredTensors();
         x.begin(5);
         x.made(true, 0, 0, 0, 0, 0);
@@ -49,6 +51,7 @@ final class Promise02BeginTest {
 
     /** Tensors of the same numbers as those that went, made otherwise. */
     private static void leavesNoTrace(Due due) {
+        due.about("All tensors, indices and the loss go");
         MeasuredTensors x = new MeasuredTensors();
         x.made(true, 2, 4, 4, 0, 0);
         for (int k = 0; k < 4; k++) {
@@ -74,6 +77,7 @@ final class Promise02BeginTest {
     }
 
     private static void refusesOtherPlaces(Due due) {
+        due.about("IllegalArgumentException: it is not 0 .. 64");
         MeasuredTensors x = new MeasuredTensors();
         x.begin(7);
         x.made(true, 0, 0, 0, 0, 0);

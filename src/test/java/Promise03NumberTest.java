@@ -11,6 +11,8 @@ final class Promise03NumberTest {
     }
 
     private static void measures(Due due) {
+        due.about("A number u / l. number, or fraction, u / l in least terms: the least r with u below 2^r; e as "
+                + "often as 2 divides l, q what remains of l");
         MeasuredTensors x = new MeasuredTensors();
         int[][] rows = {
             // u, l, r, e, q
@@ -29,6 +31,7 @@ final class Promise03NumberTest {
     }
 
     private static void refuses(Due due) {
+        due.about("IllegalArgumentException: u is below 0, or l below 1, or they are not in least terms");
         MeasuredTensors x = new MeasuredTensors();
         int[][] rows = {
             {-1, 1}, {1, 0}, {1, -1}, {-1, -1}, {2, 4}, {0, 2}, {0, 0}, {6, 9}, {0, MOST}, {MOST, MOST},
@@ -41,6 +44,7 @@ final class Promise03NumberTest {
     }
 
     private static void isFullBeyondWork(Due due) {
+        due.about("A call answers the new tensor's number; FULL: too much: WORK beyond 1000000");
         MeasuredTensors x = new MeasuredTensors();
         for (int k = 0; k < 15; k++) {
             x.made(false, 2, 4096, 16, 0, 0);

@@ -11,6 +11,7 @@ final class Promise04MadeTest {
     }
 
     private static void makesInputsAndParams(Due due) {
+        due.about("An input (param: a param) with so many sides, the first of a, b, c, d");
         MeasuredTensors x = new MeasuredTensors();
         x.begin(9);
         due.is("made(false, 0, ..)", 0, x.made(false, 0, -1, -1, -1, -1));
@@ -30,6 +31,7 @@ final class Promise04MadeTest {
     }
 
     private static void isFull(Due due) {
+        due.about("FULL as of a call");
         MeasuredTensors x = new MeasuredTensors();
         due.is("65537 cells", FULL, x.made(false, 2, 257, 256, 0, 0));
         due.is("4096 x 17", FULL, x.made(true, 2, 4096, 17, 0, 0));
@@ -47,6 +49,7 @@ final class Promise04MadeTest {
     }
 
     private static void refuses(Due due) {
+        due.about("IllegalArgumentException: sides is not 0 .. 4, or one of those is not 1 .. 4096");
         MeasuredTensors x = new MeasuredTensors();
         int[][] rows = {
             {-1, 1, 1, 1, 1}, {5, 1, 1, 1, 1}, {Integer.MIN_VALUE, 1, 1, 1, 1}, {Integer.MAX_VALUE, 1, 1, 1, 1},

@@ -9,6 +9,7 @@ final class Promise05IndexTest {
     }
 
     private static void numbersThemApart(Due due) {
+        due.about("An index likewise: its number. they are numbered apart");
         MeasuredTensors x = new MeasuredTensors();
         due.is("index [] below 1", 0, x.index(0, 0, 0, 0, 0, 1));
         due.is("made", 0, x.made(false, 0, 0, 0, 0, 0));
@@ -20,6 +21,8 @@ final class Promise05IndexTest {
     }
 
     private static void refuses(Due due) {
+        due.about("IllegalArgumentException: as for made, or below is not 1 .. 65536; UnsupportedOperationException: "
+                + "it would have more than 4096 cells, or there are 1000");
         MeasuredTensors x = new MeasuredTensors();
         int[][] illegal = {
             // sides, a, b, c, d, below
@@ -42,6 +45,7 @@ final class Promise05IndexTest {
     }
 
     private static void cellsAndBelowMatter(Due due) {
+        due.about("INDICES have a shape of at most 4096 cells, and a number that what they tell is BELOW, 1 .. 65536");
         MeasuredTensors x = new MeasuredTensors();
         x.made(true, 2, 5, 3, 0, 0);
         x.index(1, 4, 0, 0, 0, 5);

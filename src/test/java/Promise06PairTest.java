@@ -15,6 +15,7 @@ final class Promise06PairTest {
     }
 
     private static void goesCellByCell(Due due) {
+        due.about("a + b (how = 0), a - b (1), a * b (2): cell by cell, the smaller one again and again");
         MeasuredTensors x = new MeasuredTensors();
         x.begin(20);
         x.made(false, 2, 2, 3, 0, 0);
@@ -50,6 +51,7 @@ final class Promise06PairTest {
     }
 
     private static void sumsProducts(Due due) {
+        due.about("a @ b (3): [m, n] @ [n] is [m]; [m, n] @ [n, p] is [m, p]; [n] @ [n, p] is [p]; [n] @ [n] is []");
         MeasuredTensors x = new MeasuredTensors();
         x.begin(4);
         x.made(false, 2, 3, 5, 0, 0);
@@ -85,6 +87,7 @@ final class Promise06PairTest {
     }
 
     private static void isWrong(Due due) {
+        due.about("WRONG: shapes are not as they must be");
         MeasuredTensors x = new MeasuredTensors();
         x.made(false, 2, 2, 3, 0, 0);
         x.made(false, 1, 2, 0, 0, 0);
@@ -111,6 +114,7 @@ final class Promise06PairTest {
     }
 
     private static void isFull(Due due) {
+        due.about("FULL: a result has more than 65536 cells, a MEASURE is beyond its bounds, or WORK beyond 1000000");
         MeasuredTensors x = new MeasuredTensors();
         x.made(false, 2, 257, 1, 0, 0);
         x.made(false, 2, 1, 256, 0, 0);
@@ -143,6 +147,7 @@ final class Promise06PairTest {
     }
 
     private static void measureOf4000(Due due) {
+        due.about("r and e at most 4000");
         MeasuredTensors x = new MeasuredTensors();
         x.begin(64);
         x.made(true, 0, 0, 0, 0, 0);
@@ -181,6 +186,7 @@ final class Promise06PairTest {
     }
 
     private static void findsSlopes(Due due) {
+        due.about("in a * b, a @ b, conv joined with the other argument's as a * b joins r, e and q");
         MeasuredTensors x = new MeasuredTensors();
         x.begin(4);
         x.made(true, 2, 3, 5, 0, 0);
@@ -204,6 +210,7 @@ final class Promise06PairTest {
     }
 
     private static void findsSlopesOfRows(Due due) {
+        due.about("p (1 without it) for a, m (1 without it) for b");
         MeasuredTensors x = new MeasuredTensors();
         x.begin(4);
         x.made(false, 1, 5, 0, 0, 0);
@@ -223,6 +230,7 @@ final class Promise06PairTest {
     }
 
     private static void refuses(Due due) {
+        due.about("IndexOutOfBoundsException: there is no such tensor; IllegalArgumentException: another how");
         MeasuredTensors x = new MeasuredTensors();
         x.made(false, 1, 2, 0, 0, 0);
         x.index(1, 2, 0, 0, 0, 2);

@@ -11,6 +11,7 @@ final class Promise08OverTest {
     }
 
     private static void divides(Due due) {
+        due.about("a divided by u / l. a / f, f = u / l: as a * (l / u)");
         MeasuredTensors x = new MeasuredTensors();
         x.begin(5);
         x.made(true, 2, 2, 3, 0, 0);
@@ -35,6 +36,7 @@ final class Promise08OverTest {
     }
 
     private static void isFull(Due due) {
+        due.about("its bounds: r and e at most 4000, q below 2^62");
         MeasuredTensors x = new MeasuredTensors();
         x.number(1, 1);
         x.over(0, MOST, 1);
@@ -61,6 +63,8 @@ final class Promise08OverTest {
     }
 
     private static void refuses(Due due) {
+        due.about("IndexOutOfBoundsException: there is no such tensor; IllegalArgumentException: u or l is below 1, "
+                + "or they are not in least terms");
         MeasuredTensors x = new MeasuredTensors();
         x.number(1, 1);
         int[][] rows = {{0, 1}, {1, 0}, {-1, 1}, {1, -1}, {0, 0}, {2, 4}, {9, 6}, {MOST, MOST},

@@ -35,6 +35,7 @@ final class Promise09CallTest {
     }
 
     private static void cellsAlone(Due due) {
+        due.about("Calls 0 relu, 1 abs, 2 square, 3 step, 4 stop. Terms 1; 1");
         MeasuredTensors x = begun(6);
         x.made(true, 2, 2, 3, 0, 0);
         due.is("over(0, 6, 5)", 1, x.over(0, 6, 5));
@@ -55,6 +56,8 @@ final class Promise09CallTest {
     }
 
     private static void sums(Due due) {
+        due.about("5 sum, 6 mean, 7 high. sum(a), mean(a): of all cells, no sides; sum(a; k), mean(a; k): along side "
+                + "k, which goes");
         MeasuredTensors x = begun(6);
         x.made(true, 4, 2, 3, 4, 5);
         due.is("sum(a)", 1, plain(x, 5, 0));
@@ -93,6 +96,7 @@ final class Promise09CallTest {
     }
 
     private static void convolutions(Due due) {
+        due.about("8 conv. conv(x, f; s): [o, (h - p) / s + 1, (w - q) / s + 1] (rounded down). Terms c p q");
         MeasuredTensors x = begun(3);
         x.made(false, 3, 2, 5, 7, 0);
         x.made(true, 4, 3, 2, 2, 3);
@@ -117,6 +121,7 @@ final class Promise09CallTest {
     }
 
     private static void convolutionSlopes(Due due) {
+        due.about("o p q for x; for f how many cells are told by (y, z)");
         MeasuredTensors x = begun(3);
         x.made(false, 3, 2, 5, 7, 0);
         x.made(true, 4, 3, 2, 2, 3);
@@ -129,6 +134,7 @@ final class Promise09CallTest {
     }
 
     private static void pools(Due due) {
+        due.about("9 pool, 10 tops. means of p times p cells, [c, h / p, w / p]; tops(x; p) the greatest ones");
         MeasuredTensors x = begun(3);
         x.made(false, 3, 3, 6, 12, 0);
         int[] squares = {1, 2, 3, 6};
@@ -154,6 +160,7 @@ final class Promise09CallTest {
     }
 
     private static void moves(Due due) {
+        due.about("12 turn, 13 part, 14 join, 15 pad. Terms 1; 1");
         MeasuredTensors x = begun(5);
         x.made(true, 3, 4, 6, 5, 0);
         x.over(0, 12, 7);
@@ -191,6 +198,7 @@ final class Promise09CallTest {
     }
 
     private static void moveSlopes(Due due) {
+        due.about("from each use of it in a result with a slope: that of the result's slope");
         MeasuredTensors x = begun(5);
         x.made(true, 3, 4, 6, 5, 0);
         numbered(x, 15, 0, 1);
@@ -211,6 +219,7 @@ final class Promise09CallTest {
     }
 
     private static void indices(Due due) {
+        due.about("16 pick, 17 hinge: a tensor by its number, an index i as -1 - i");
         MeasuredTensors x = begun(5);
         x.made(true, 2, 7, 3, 0, 0);
         x.over(0, 3, 2);
@@ -240,6 +249,7 @@ final class Promise09CallTest {
     }
 
     private static void gaps(Due due) {
+        due.about("18 gap. gap: as a - b, its square, sum, / 2");
         MeasuredTensors x = begun(5);
         x.made(true, 2, 2, 3, 0, 0);
         x.over(0, 3, 2);
@@ -264,6 +274,7 @@ final class Promise09CallTest {
     }
 
     private static void isFull(Due due) {
+        due.about("FULL: a result has more than 65536 cells or a side above 4096");
         MeasuredTensors x = begun(0);
         x.made(false, 1, 2048, 0, 0, 0);
         x.made(false, 1, 2049, 0, 0, 0);
@@ -295,6 +306,7 @@ final class Promise09CallTest {
     }
 
     private static void fullWork(Due due) {
+        due.about("FULL: WORK beyond 1000000");
         MeasuredTensors x = begun(0);
         x.made(false, 3, 4, 128, 128, 0);
         for (int k = 1; k < 14; k++) {
@@ -314,6 +326,7 @@ final class Promise09CallTest {
     }
 
     private static void fullMeasures(Due due) {
+        due.about("FULL: a MEASURE is beyond its bounds");
         MeasuredTensors x = begun(0);
         x.made(true, 1, 3, 0, 0, 0);
         for (int k = 0; k < 8; k++) {

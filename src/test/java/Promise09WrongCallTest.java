@@ -53,6 +53,7 @@ final class Promise09WrongCallTest {
     }
 
     private static void wrongCounts(Due due) {
+        due.about("WRONG: how many arguments and whole numbers there are are not as they must be");
         for (int what : CALLS) {
             MeasuredTensors x = withAllSides();
             for (int n = 0; n <= 2; n++) {
@@ -67,6 +68,7 @@ final class Promise09WrongCallTest {
     }
 
     private static void wrongKinds(Due due) {
+        due.about("WRONG: what they are is not as it must be");
         for (int what : CALLS) {
             MeasuredTensors x = withAllSides();
             int m = takes(what, 2) ? 2 : takes(what, 1) ? 1 : 0;
@@ -90,6 +92,7 @@ final class Promise09WrongCallTest {
     }
 
     private static void wrongShapes(Due due) {
+        due.about("WRONG: shapes, or the whole numbers, are not as they must be");
         for (int a = 0; a <= 4; a++) {
             MeasuredTensors x = withAllSides();
             for (int what = 5; what <= 7; what++) {
@@ -132,6 +135,7 @@ final class Promise09WrongCallTest {
     }
 
     private static void wrongWindows(Due due) {
+        due.about("WRONG: shapes, or the whole numbers, are not as they must be");
         MeasuredTensors x = withAllSides();
         isWrong(due, x, 13, 1, 0, 0, 2, 0, 1);
         isWrong(due, x, 14, 2, 0, 0, 0);
@@ -153,6 +157,7 @@ final class Promise09WrongCallTest {
     }
 
     private static void wrongSides(Due due) {
+        due.about("WRONG: shapes are not as they must be");
         MeasuredTensors x = new MeasuredTensors();
         x.made(false, 3, 2, 4, 5, 0);
         x.made(true, 4, 1, 3, 2, 2);
@@ -186,6 +191,7 @@ final class Promise09WrongCallTest {
     }
 
     private static void wrongBeforeFull(Due due) {
+        due.about("WRONG before FULL");
         MeasuredTensors x = new MeasuredTensors();
         for (int k = 0; k < 15; k++) {
             x.made(false, 2, 4096, 16, 0, 0);
@@ -201,6 +207,8 @@ final class Promise09WrongCallTest {
     }
 
     private static void refuses(Due due) {
+        due.about("IllegalArgumentException: another what, n or m is not 0 .. 2, or one of its m whole numbers is "
+                + "below 0; IndexOutOfBoundsException: one of its n arguments is not there");
         MeasuredTensors x = withAllSides();
         int[][] illegal = {
             // what, n, a, b, m, x, y

@@ -4,6 +4,7 @@ final class Promise10ReshapeTest {
 
     public static void main(String[] args) {
         Due due = new Due("Promise 10");
+        due.about("A reshaped to so many sides. reshape(a, shape): as many cells, in their order");
         MeasuredTensors x = new MeasuredTensors();
         x.begin(2);
         x.made(true, 2, 4, 6, 0, 0);
@@ -35,6 +36,7 @@ final class Promise10ReshapeTest {
     }
 
     private static void isWrong(Due due, MeasuredTensors x) {
+        due.about("WRONG: other cells");
         due.is("[4, 6] to [23]", WRONG, x.reshape(0, 1, 23, 0, 0, 0));
         due.is("[4, 6] to []", WRONG, x.reshape(0, 0, 0, 0, 0, 0));
         due.is("[4, 6] to [4, 4]", WRONG, x.reshape(0, 2, 4, 4, 0, 0));
@@ -44,6 +46,7 @@ final class Promise10ReshapeTest {
     }
 
     private static void refuses(Due due, MeasuredTensors x) {
+        due.about("IndexOutOfBoundsException: there is no such tensor; IllegalArgumentException: as for made");
         int[][] rows = {{-1, 4, 6, 1, 1}, {5, 4, 6, 1, 1}, {2, 0, 6, 1, 1}, {2, 4, -6, 1, 1}, {3, 4, 6, 0, 1},
             {4, 4, 6, 1, 4097}, {1, 4097, 1, 1, 1}};
         for (int[] k : rows) {

@@ -15,6 +15,8 @@ final class Promise11LossTest {
     }
 
     private static void countsLimbs(Due due) {
+        due.about("Answers the limbs. LIMBS: for each tensor its cells times ((r + e + 64) / 32 rounded up), and the "
+                + "same of its slope, if it has one, all together");
         MeasuredTensors x = new MeasuredTensors();
         x.number(0, 1);
         due.is("2 limbs, and 3 of the slope", 2 + 3, x.loss(0));
@@ -34,6 +36,7 @@ final class Promise11LossTest {
     }
 
     private static void measuresAnew(Due due) {
+        due.about("The loss: slopes are measured anew");
         MeasuredTensors x = new MeasuredTensors();
         x.begin(8);
         x.made(true, 0, 0, 0, 0, 0);
@@ -64,6 +67,8 @@ final class Promise11LossTest {
     }
 
     private static void joinsUses(Due due) {
+        due.about("Of several uses (a * a is two): greater e, least common multiple of q, greater r + L(how many "
+                + "uses)");
         MeasuredTensors x = new MeasuredTensors();
         x.begin(3);
         x.made(true, 0, 0, 0, 0, 0);
@@ -91,6 +96,7 @@ final class Promise11LossTest {
     }
 
     private static void stepAndStopHaveNone(Due due) {
+        due.about("step, stop and indices have no slope, nor what is used only in such, or not at all");
         MeasuredTensors x = new MeasuredTensors();
         x.made(true, 0, 0, 0, 0, 0);
         x.made(true, 0, 0, 0, 0, 0);
@@ -120,6 +126,7 @@ final class Promise11LossTest {
     }
 
     private static void isFullOfLimbs(Due due) {
+        due.about("or LIMBS are above 200000: then there is no loss");
         MeasuredTensors x = new MeasuredTensors();
         x.made(false, 2, 4096, 16, 0, 0);
         x.made(false, 1, 1128, 0, 0, 0);
@@ -136,6 +143,8 @@ final class Promise11LossTest {
 
     /** A slope's e and q never go beyond the loss's own, so that only r can. */
     private static void isFullOfRange(Due due) {
+        due.about("FULL when some slope's measure, or the least common multiple of q of all params' slopes, is "
+                + "beyond its bounds");
         MeasuredTensors x = new MeasuredTensors();
         x.number(0, 1);
         x.number(0, 1);
@@ -165,6 +174,7 @@ final class Promise11LossTest {
     }
 
     private static void refuses(Due due) {
+        due.about("IndexOutOfBoundsException: there is no such tensor; IllegalArgumentException: it has sides");
         MeasuredTensors x = new MeasuredTensors();
         x.number(1, 1);
         x.made(false, 1, 1, 0, 0, 0);

@@ -4,6 +4,9 @@ final class Promise12ToldTest {
 
     public static void main(String[] args) {
         Due due = new Due("Promise 12");
+        due.about("what = 0 how many sides, 1 .. 4 these (1 for none), 5 cells, 6 terms, 7 r, 8 e; 9 how many uses of "
+                + "it give it a slope (0 without a loss; the loss itself has one for being it), 10 the slope's r, 11 "
+                + "its e (NONE without one)");
         MeasuredTensors x = new MeasuredTensors();
         x.begin(11);
         x.made(true, 2, 3, 4, 0, 0);
@@ -14,6 +17,7 @@ final class Promise12ToldTest {
         int[][] after = {{2, 3, 4, 1, 1, 12, 1, 15, 11, 1, 2, 2}, {0, 1, 1, 1, 1, 1, 12, 20, 13, 1, 1, 0}};
         tells(due, x, after);
 
+        due.about("IndexOutOfBoundsException: there is no such tensor; IllegalArgumentException: another what");
         for (int what : new int[] {-1, 12, Integer.MIN_VALUE, Integer.MAX_VALUE}) {
             due.isIllegal("told(0, " + what + ")", () -> x.told(0, what));
             due.isOutOfBounds("told(2, " + what + ")", () -> x.told(2, what));

@@ -2,6 +2,7 @@
 final class Promise13DivisorTest {
     public static void main(String[] args) {
         Due due = new Due("Promise 13");
+        due.about("The divisor of a tensor, or of its slope (NONE without one)");
         MeasuredTensors x = new MeasuredTensors();
         x.number(1, 7);
         x.over(0, 9, 4);
@@ -18,6 +19,7 @@ final class Promise13DivisorTest {
             due.is("divisor(" + t + ", false)", divisors[t], x.divisor(t, false));
             due.is("divisor(" + t + ", true)", slopes[t], x.divisor(t, true));
         }
+        due.about("IndexOutOfBoundsException: there is no such tensor");
         for (int t : new int[] {-1, 4, Integer.MIN_VALUE, Integer.MAX_VALUE}) {
             due.isOutOfBounds("divisor(" + t + ", false)", () -> x.divisor(t, false));
             due.isOutOfBounds("divisor(" + t + ", true)", () -> x.divisor(t, true));

@@ -4,6 +4,8 @@ final class Promise14AllTest {
 
     public static void main(String[] args) {
         Due due = new Due("Promise 14");
+        due.about("How many tensors there are (0), indices (1), WORK (2); the loss (3, NONE without one); NONE for "
+                + "another what");
         MeasuredTensors x = new MeasuredTensors();
         tellsNothingElse(due, x);
         x.made(false, 2, 5, 6, 0, 0);

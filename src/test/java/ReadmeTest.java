@@ -9,9 +9,9 @@ import java.util.TreeSet;
 import java.util.regex.Matcher;
 import java.util.regex.Pattern;
 
-/** The examples of README.md, read where .ci/run stands: each answers what stands behind it, and no method lacks one. */
+/** The examples of README.md, read where .ci/run stands: each answers what it says, and no method lacks one. */
 final class ReadmeTest {
-    private static final Pattern EXAMPLE = Pattern.compile("x\\.(\\w+)\\((.*)\\); +// (->|throws) ([-\\w]+)(:.*)?");
+    private static final Pattern EXAMPLE = Pattern.compile("x\\.(\\w+)\\((.*)\\); +// (->|throws) (\\w+)(:.*)?");
     private static final String START = "MeasuredTensors x = new MeasuredTensors();";
 
     private final Due due = new Due("Readme");
